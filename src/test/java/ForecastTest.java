@@ -21,7 +21,7 @@ public final class ForecastTest {
                 appeal(2, 3); lack() = 60; decide(2, 3) = 2; lack() = 160
                 fill(59); lack() = 101; setRate(50); lack() = 0; setRate(200); lack() = 411
                 fill(411); lack() = 0; fill(1000); lack() = 0; grade(3, 4); lack() = 0
-                pay(0) = 180; lack() = 0; refuse(1) = 0; lack() = 0; undo()
+                pay(0) = 180; lack() = 0; refuse(1) = 0; lack() = 0
                 """);
         Script.run("lack counts no paid, refused or folded one", """
                 addAsset(1, 100); addHunter(); report(0, 0, 1); report(0, 0, 1); report(0, 0, 2)

@@ -14,6 +14,7 @@ public final class PayingTest {
         retestOnlyByOthers();
         retestCloses();
         retestBonus();
+        bonusesAddUp();
         retestMakesNewAgain();
         passErrors();
         passQuarters();
@@ -124,6 +125,17 @@ public final class PayingTest {
                 fill(1000); report(0, 0, 1); grade(0, 1); pay(0); retest(1, 0, 0)
                 setBonus(500); retest(2, 0, 0) = 2; hunter(1, 1) = 500; hunter(2, 1) = 500
                 count(2) = 0; asset(0, 2) = 90
+                """);
+    }
+
+    private static void bonusesAddUp() {
+        Script.run("bonuses add up, with what was paid, for the first hunter as well", DESK, """
+                fill(200); report(1, 0, 1); report(1, 0, 2); report(0, 0, 3)
+                grade(0, 1); grade(1, 1); grade(2, 1); pay(0); pay(1); pay(2) = 10
+                retest(0, 0, 1); retest(4, 0, 1) = 1; hunter(0, 1) = 30; hunter(4, 1) = 20; count(14) = 40
+                setBonus(30); retest(4, 1, 0); retest(0, 1, 0) = 2
+                hunter(0, 1) = 60; hunter(4, 1) = 50; count(14) = 100; count(2) = 100
+                hunter(0, 5) = 2; hunter(0, 2) = 5; hunter(4, 5) = 2; hunter(4, 2) = 2; hunter(3, 5) = 0
                 """);
     }
 

@@ -6,6 +6,7 @@ public final class UndoTest {
         whatIsNoDeed();
         deedsThatChangeNothing();
         backAndForth();
+        backToAnEarlierAppeal();
         Script.end();
     }
 
@@ -53,6 +54,16 @@ public final class UndoTest {
                 reportOf(0, 3) = 1; hunter(0, 1) = 0; hunter(1, 1) = 0; asset(0, 2) = 100; count(13) = 0
                 undo() = 5; undo() = 4; fold(1) = 0; grade(0, 1) = 20; pay(0) = 20; hunter(1, 1) = 2
                 refuse(0) = ILLEGAL; undo(); refuse(0) = 1; undo() = 6; reportOf(1, 5) = 0; reportOf(0, 3) = 1
+                """);
+    }
+
+    private static void backToAnEarlierAppeal() {
+        Script.run("back to the claim of an earlier appeal", """
+                addAsset(2, 100); addHunter(); addHunter(); addHunter(); report(0, 0, 1); grade(0, 1)
+                appeal(0, 2) = 80; decide(0, 1) = 0; pay(0) = 20; retest(1, 0, 0) = 0; retest(2, 0, 0) = 2
+                grade(0, 1) = 20; appeal(0, 4) = 320
+                undo(); undo(); undo(); undo(); undo(); undo() = 2
+                reportOf(0, 8) = 1; decide(0, 4) = INVALID; decide(0, 3) = INVALID; decide(0, 2) = 2
                 """);
     }
 }
