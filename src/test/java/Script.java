@@ -5,11 +5,14 @@ import java.util.List;
  * A run of calls on a new desk, written as text: "fill(20) = 20", parted by lines
  * or semicolons; a call without "=" is there to lead to the others. Behind every
  * call with an answer it is tested as well that an error or a look changes
- * nothing, and that a deed is remembered and undone wholly. These looks are taken
- * on further desks that replay the run, since a desk is promised for 512 calls.
+ * nothing, and that a deed is remembered and undone wholly, and both leave what can
+ * be undone behind it. These looks are taken on further desks that replay the run,
+ * since a desk is promised for 512 calls.
  */
 final class Script {
     private static final int LOOKS_A_DESK = 200;
+    private static final int COUNTS = 17;
+    private static final int MOST_CALLS = 300;
     private static int tested = 0;
     private static int wrong = 0;
 
@@ -31,6 +34,25 @@ final class Script {
         }
     }
 
+    /**
+     * Makes a call with values outside least to most in the place of its "?", which
+     * all have to be answered with the error: the first ones on each side, the
+     * outermost ones, and those that a shorter number would wrap around.
+     */
+    static void refused(String title, String setup, String call, int least, int most, String error) {
+        long[] values = {least - 1L, least - 2L, least - 10L, most + 1L, most + 2L, most + 10L,
+                Integer.MIN_VALUE, Integer.MIN_VALUE + 1L, Integer.MAX_VALUE, Integer.MAX_VALUE - 1L,
+                least + 256L, most - 256L, least + 65536L, most - 65536L, -most, least ^ 0x80000000L};
+        StringBuilder calls = new StringBuilder();
+        for (long value : values) {
+            int cut = (int) value;
+            if (cut < least || cut > most) {
+                calls.append(call.replace("?", "" + cut)).append(" = ").append(error).append('\n');
+            }
+        }
+        run(title, setup, calls.toString());
+    }
+
     /** Ends the test with exit code 1 if an answer was wrong. */
     static void end() {
         System.out.println(tested + " calls tested, " + wrong + " wrong");
@@ -48,6 +70,9 @@ final class Script {
     }
 
     private void take(String line) {
+        if (done.size() >= MOST_CALLS) {
+            throw new IllegalArgumentException(title + " is too long for the looks behind its calls");
+        }
         int sign = line.indexOf('=');
         Calls.Call call = parsed(sign < 0 ? line : line.substring(0, sign));
         int got = call.on(desk);
@@ -72,6 +97,9 @@ final class Script {
             call.on(with);
             compare(call, from, with, without, -1);
         }
+        BountyDesk with = replayed();
+        call.on(with);
+        compareWhatIsUndone(call, with, replayed());
     }
 
     private void testThatItIsUndone(Calls.Call call) {
@@ -86,6 +114,22 @@ final class Script {
             call.on(with);
             with.undo();
             compare(call, from, with, without, 16);
+        }
+        BountyDesk with = replayed();
+        call.on(with);
+        with.undo();
+        compareWhatIsUndone(call, with, replayed());
+    }
+
+    /** Of eight remembered deeds a further one makes the desk forget the first. */
+    private void compareWhatIsUndone(Calls.Call call, BountyDesk with, BountyDesk without) {
+        int known = Math.min(with.count(16), without.count(16));
+        for (int i = 1; i <= known; i++) {
+            with.undo();
+            without.undo();
+            for (int what = 0; what < COUNTS - 1; what++) {
+                expect(call, "leaves count(" + what + ") behind undo " + i, with.count(what), without.count(what));
+            }
         }
     }
 
