@@ -35,6 +35,7 @@ public final class BoundsOfLooksTest {
                 grade(0, 1); count(6) = 2; count(7) = 1; pay(0) = 20; count(7) = 0; count(9) = 1; count(12) = 80; count(13) = 20
                 fold(1); count(6) = 1; count(11) = 1; grade(2, 1); pay(2) = 0; count(8) = 1; appeal(2, 4); count(15) = 1
                 decide(2, 1); count(15) = 0; refuse(2) = 0; count(8) = 0; count(10) = 1; count(14) = 0
+                report(3, 1, 4); refuse(3) = 0; count(10) = 2; count(11) = 1; count(5) = 4
                 setBonus(3); retest(2, 0, 1); retest(3, 0, 1) = 1; count(14) = 6; count(2) = 1; count(13) = 20; count(9) = 1
                 """);
         Script.run("all that was paid so far, by a quarter and for what is new again as well", """
