@@ -136,6 +136,12 @@ public final class BoundsOfPayingTest {
                     "hunter(0, 1) = " + (price - 3 * (price / 10)) + "; hunter(1, 1) = " + price / 10 + "\n",
                     "hunter(2, 1) = " + price / 10 + "; hunter(3, 1) = " + price / 10);
         }
+        Script.run("a tenth of the greatest prices", "addAsset(9, 10000); addHunter(); addHunter()\n", """
+                report(0, 0, 1); report(1, 0, 1); fold(1); grade(0, 4); setRate(200)
+                report(0, 0, 2); report(1, 0, 2); fold(3); grade(2, 4)
+                pay(0) = 2880; hunter(0, 1) = 2592; hunter(1, 1) = 288
+                setRate(199); pay(2) = 2865; hunter(0, 1) = 5171; hunter(1, 1) = 574; count(13) = 5745
+                """);
     }
 
     private static void whoGetsParts() {
@@ -151,6 +157,20 @@ public final class BoundsOfPayingTest {
         Script.run("also the hunter of the report", "addAsset(1, 1000)\n", HUNTERS, """
                 report(0, 0, 1); report(0, 0, 1); report(2, 0, 1); fold(1); fold(2); grade(0, 3); pay(0) = 90
                 hunter(0, 1) = 81; hunter(2, 1) = 9
+                """);
+        Script.run("the own duplicates count among the first three", "addAsset(1, 1000)\n", HUNTERS, """
+                report(0, 0, 1); report(0, 0, 1); report(1, 0, 1); report(0, 0, 1); report(2, 0, 1)
+                fold(1); fold(2); fold(3); fold(4); grade(0, 3); pay(0) = 90
+                hunter(0, 1) = 81; hunter(1, 1) = 9; hunter(2, 1) = 0
+                """);
+        Script.run("all first three by the hunter of the report", "addAsset(1, 1000)\n", HUNTERS, """
+                report(0, 0, 1); report(0, 0, 1); report(0, 0, 1); report(0, 0, 1); report(1, 0, 1)
+                fold(1); fold(2); fold(3); fold(4); grade(0, 3); pay(0) = 90; hunter(0, 1) = 90; hunter(1, 1) = 0
+                """);
+        Script.run("one hunter twice, and another one behind the third", "addAsset(1, 1000)\n", HUNTERS, """
+                report(0, 0, 1); report(1, 0, 1); report(2, 0, 1); report(1, 0, 1); report(3, 0, 1)
+                fold(1); fold(2); fold(3); fold(4); grade(0, 3); pay(0) = 90
+                hunter(0, 1) = 63; hunter(1, 1) = 18; hunter(2, 1) = 9; hunter(3, 1) = 0
                 """);
         Script.run("one that is not the first report, and the last number", "addAsset(1, 1000)\n", HUNTERS, """
                 report(7, 0, 2); report(6, 0, 1)

@@ -187,6 +187,11 @@ public final class BoundsOfRetestsTest {
                 retest(3, 0, 0); retest(4, 0, 0) = 2; reportOf(0, 9) = 10; count(13) = 10; hunter(0, 1) = 10
                 asset(0, 2) = 90; grade(0, 2); reportOf(0, 9) = 10; pay(0) = 40; reportOf(0, 9) = 40
                 """);
+        Script.run("what was paid stays told when the report waits, or is refused then", PAID, """
+                retest(3, 0, 0); retest(4, 0, 0) = 2; setRate(200); grade(0, 4) = 320; reportOf(0, 9) = 10
+                pay(0) = 0; reportOf(0, 3) = 2; reportOf(0, 9) = 10; refuse(0) = 0; reportOf(0, 3) = 4
+                reportOf(0, 9) = 10; reportOf(0, 7) = NONE; count(13) = 10; hunter(0, 1) = 10; hunter(0, 2) = -2
+                """);
         Script.run("a hunter's appeals and bonuses stay", NEW, """
                 fill(40); grade(0, 1); appeal(0, 2); decide(0, 2); pay(0) = 40; retest(3, 0, 0); retest(4, 0, 0) = 2
                 hunter(0, 3) = 1; hunter(0, 2) = 2; hunter(3, 5) = 1; hunter(3, 2) = 1; hunter(3, 1) = 20
